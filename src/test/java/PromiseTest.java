@@ -29,11 +29,13 @@ public final class PromiseTest {
         alter();
         alterWrong();
         alterFull();
+        alterFullByTaking();
         reach();
         reachWrong();
         turn();
         about();
         same();
+        afterMore();
         checks.finish();
     }
 
@@ -452,11 +454,21 @@ public final class PromiseTest {
         checks.due("100 of 2", 100, x.alter(2, 2, 0, 1));
         checks.due("100 of 3", 100, x.alter(2, 3, 0, 1));
         checks.due("100 of 5", 100, x.alter(2, 5, 0, 1));
-        Shelves.fillRow(x, 4, 3700, 100);
-        checks.due("the rest of 300", 300, x.alter(2, 1, 0, 4));
-        checks.dueThrow("301 of 1", STATE, () -> x.alter(2, 1, 1, 4));
+    }
+
+    private static void alterFullByTaking() {
+        checks.topic("9 alter, full by taking");
+        TupleShelf x = new TupleShelf();
+        Shelves.fillRow(x, 0, 0, 200);
+        Shelves.fillRow(x, 1, 3700, 100);
+        checks.due("300", 300, x.alter(2, 1, 0, 1));
+        checks.due("counts of 300", 100, x.about(2, 3));
+        x.put(0, 1000, 1);
+        checks.dueThrow("301", STATE, () -> x.alter(2, 1, 0, 1));
         checks.due("2 stays", 300, x.about(2, 1));
-        checks.due("2 stays as it was", 100, x.about(2, 3));
+        checks.due("2 stays as it was", 0, x.count(2, 1000));
+        x.put(0, 3700, 1);
+        checks.due("one that becomes 0 takes no room", 300, x.alter(2, 1, 0, 1));
     }
 
     private static void reach() {
@@ -532,6 +544,10 @@ public final class PromiseTest {
         }
         x.put(0, 0xf00, 109);
         checks.due("greatest", 100, x.about(0, 4));
+        Shelves.fill(x, 0, 3, 0x123, -6);
+        checks.due("greatest of one", -6, x.about(0, 4));
+        x.put(0, 0x123, 6);
+        checks.due("greatest after the last is out", 0, x.about(0, 4));
         long[] empty = {1, 0, 0, 0, 0};
         for (int what = 0; what < empty.length; what++) {
             checks.due("empty " + what, empty[what], x.about(1, what));
@@ -573,5 +589,32 @@ public final class PromiseTest {
             checks.dueThrow("a " + r, NO_SUCH, () -> x.same(r, 0));
             checks.dueThrow("b " + r, NO_SUCH, () -> x.same(0, r));
         }
+    }
+
+    private static void afterMore() {
+        checks.topic("6 to 13, of a relation that had more in before");
+        TupleShelf x = Shelves.with(0, 2, 0x110, 5, 0x120, 6, 0x220, 7);
+        Shelves.fill(x, 0, 2, 0x110, 5);
+        x.turn(1, 0);
+        Shelves.fill(x, 2, 2, 0x110, 5, 0x120, 6, 0x220, 7);
+        x.put(2, 0x220, -7);
+        x.put(2, 0x120, -6);
+        Shelves.fill(x, 5, 1, 0x100, 1, 0x200, 1);
+        checks.due("join", 1, x.join(3, 0, 5, 1));
+        checks.due("join of it behind", 1, x.join(3, 5, 0, 1));
+        checks.due("narrow", 1, x.narrow(3, 0, 2));
+        checks.due("pick", 1, x.pick(3, 0, 0, 1));
+        for (int op = 0; op < 6; op++) {
+            checks.due("alter " + op, op == 1 || op == 3 ? 0 : 1, x.alter(3, op, 0, 2));
+        }
+        x.width(4, 2);
+        checks.due("alter with an empty one", 1, x.alter(3, 0, 0, 4));
+        checks.due("alter of an empty one", 1, x.alter(3, 0, 4, 0));
+        checks.due("reach", 1, x.reach(3, 0));
+        checks.due("turn", 1, x.turn(3, 0));
+        checks.due("first numbers", 1, x.about(0, 2));
+        checks.due("sum", 5, x.about(0, 3));
+        checks.due("greatest", 5, x.about(0, 4));
+        checks.due("same", true, x.same(0, 1) && x.same(0, 2));
     }
 }
