@@ -1,7 +1,12 @@
+import java.util.Arrays;
+
 /** Ways of filling and reading a shelf that several tests use. */
 final class Shelves {
     static final int RELATIONS = 8;
     static final int MOST_IN = 300;
+    static final int MIN = Integer.MIN_VALUE;
+    static final int MAX = Integer.MAX_VALUE;
+    static final int[] NO_RELATIONS = {-1, 8, MIN, MAX};
 
     private Shelves() {
     }
@@ -28,6 +33,29 @@ final class Shelves {
         }
     }
 
+    /**
+     * Puts in (x, second, y) of width 3 for each x below firsts and each y below thirds, each with the
+     * count 1, by a join: so many puts would leave too few of the 512 calls. Relations 6 and 7 are
+     * empty then.
+     */
+    static void fillGrid(TupleShelf shelf, int r, int firsts, int second, int thirds) {
+        shelf.width(6, 1);
+        for (int x = 0; x < firsts; x++) {
+            shelf.put(6, x << 8, 1);
+        }
+        shelf.width(7, 2);
+        for (int y = 0; y < thirds; y++) {
+            shelf.put(7, second << 8 | y << 4, 1);
+        }
+        shelf.join(r, 6, 7, 0);
+        shelf.width(6, 1);
+        shelf.width(7, 1);
+    }
+
+    static void copy(TupleShelf shelf, int to, int from) {
+        shelf.alter(to, 2, from, from);
+    }
+
     static int[] tuples(TupleShelf shelf, int r) {
         int[] tuples = new int[(int) shelf.about(r, 1)];
         for (int k = 0; k < tuples.length; k++) {
@@ -44,5 +72,17 @@ final class Shelves {
             content[2 * k + 1] = shelf.count(r, tuples[k]);
         }
         return content;
+    }
+
+    static String told(TupleShelf shelf, int r) {
+        return "width " + shelf.about(r, 0) + " " + Arrays.toString(content(shelf, r));
+    }
+
+    static String toldWhole(TupleShelf shelf) {
+        StringBuilder all = new StringBuilder();
+        for (int r = 0; r < RELATIONS; r++) {
+            all.append(r).append(": ").append(told(shelf, r)).append("; ");
+        }
+        return all.toString();
     }
 }
